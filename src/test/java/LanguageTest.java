@@ -24,9 +24,7 @@ public final class LanguageTest {
         }
         Matcher state = Pattern.compile("\\bstatic\\s+(?!final\\b)[\\w\\[\\]]+\\s+\\w+\\s*[=;]").matcher(code);
         check.isTrue("a static field isn't final", !state.find());
-        for (int i = 0; i < source.length(); i++) {
-            check.isTrue("a sign above 127", source.charAt(i) < 128);
-        }
+        check.isTrue("a sign above 127", source.chars().allMatch(sign -> sign < 128));
         checkLengths(check, List.of(code.split("\n", -1)));
         check.finish();
     }

@@ -215,6 +215,13 @@ public final class PromiseTest {
         faultIs(" tax 1;;", 1, 7);
         faultIs("taxes 1;", 1, 0);
         faultIs("ta x 1;", 1, 0);
+        faultIs("max 1;", 1, 0);
+        faultIs("taxz 1;", 1, 0);
+        faultIs("taxa 1;", 1, 0);
+        faultIs("tax`1;", 1, 3);
+        faultIs("tax{1;", 1, 3);
+        faultIs("tax 1/;", 1, 5);
+        faultIs("tax 1:;", 1, 5);
         faultIs("Tax 1;", 1, 0);
         faultIs("tax 1", 1, 5);
         faultIs("tax 1 \n ", 1, 8);
@@ -857,6 +864,10 @@ public final class PromiseTest {
         is("none to come", y.sure(84), 0);
         y.stop();
         is("stopped", y.sure(84), 0);
+        TowerAppeal w = made();
+        w.pledge(0, 1, 0, 1, 3);
+        w.pay(0, 1);
+        is("a penny was due", w.sure(2), 2);
         TowerAppeal z = made();
         z.pledge(0, 100000, 0, 1, 84);
         for (int p = 1; p < 60; p++) {
@@ -987,6 +998,9 @@ public final class PromiseTest {
         is("back", z.back(0), 0);
         TowerAppeal w = made("stop all;");
         is("none gave", w.stop(), 0);
+        TowerAppeal v = made();
+        v.gift(0, 1);
+        is("a penny", v.stop(), 1);
     }
 
     private static void stopShares() {
