@@ -291,6 +291,11 @@ public final class GivingEdgesTest {
             is("about 4 in " + clock, x.about(0, 4), 100 * kept + 7 * (6 - kept));
             is("about 1 in " + clock, x.about(0, 1), 7);
         }
+        for (int first = 1; first <= 119; first++) {
+            TowerAppeal y = pledged("", 100, first, 1, 1);
+            is("change, far ahead of " + first, y.change(0, 7), 1);
+            is("about 4", y.about(0, 4), 7);
+        }
     }
 
     private static void changedWhereNothingIsFilled() {
@@ -790,12 +795,16 @@ public final class GivingEdgesTest {
             x.months(1);
         }
         TowerAppeal y = pledged("lapse 1;", 100, 118, 1, 84);
+        is("in 0", y.about(0, 7), 118);
         Check.pass(y, 117);
         is("in 117", y.about(0, 7), 118);
         y.months(1);
         is("in 118", y.about(0, 7), 119);
         y.months(1);
         is("lapsed", y.about(0, 7), NONE);
+        for (int first = 1; first <= 119; first++) {
+            is("far ahead of " + first, pledged("", 100, first, 12, 2).about(0, 7), first);
+        }
         TowerAppeal z = pledged("", 100, 118, 1, 84);
         Check.pass(z, 119);
         is("in 119, not lapsed", z.about(0, 5), 0);

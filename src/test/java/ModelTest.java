@@ -1,9 +1,14 @@
 import java.util.Random;
 
-/** Runs of 512 random calls on the class and on the model: every answer is the same, and none throws. */
+/** Runs of just 512 random calls on the class and on the model: every answer is the same, and none throws. */
 public final class ModelTest {
     private static final int RUNS = 3000;
+    // What an object answers behind its 512th call is free.
     private static final int CALLS = 512;
+    // The last calls of a run: stop, back of each giver, the coin.
+    private static final int LAST_CALLS = 32;
+    // More than telling a text takes.
+    private static final int CALLS_OF_A_TEXT = 40;
     private static final int[] EDGES = {
         Integer.MIN_VALUE, Integer.MAX_VALUE, -2, -1, 0, 1, 2, 7, 8, 12, 13, 24, 25, 29, 30, 59, 60, 84, 85,
         119, 120, 249, 250, 399, 400, 100000, 100001, 5000000, 5000001, 100000000, 100000001,
@@ -19,10 +24,12 @@ public final class ModelTest {
     private TowerAppeal x;
     private Model m;
     private int run;
-    // How large this run's sums are, and how often months end in it.
+    private int calls;
+    // How large this run's sums are, how often months end in it, and the call that comes most often (none below 0).
     private int wealth;
     private int haste;
     private int stopOdds;
+    private int favourite;
 
     public static void main(String[] args) {
         ModelTest test = new ModelTest();
@@ -34,22 +41,33 @@ public final class ModelTest {
 
     private void oneRun(int number) {
         run = number;
+        calls = 0;
         random = new Random(number);
         x = new TowerAppeal();
         m = new Model();
         wealth = new int[] {100, 2000, 100000, 5000000}[random.nextInt(4)];
         haste = 1 + random.nextInt(12);
         stopOdds = random.nextBoolean() ? 300 : 100000;
+        favourite = random.nextInt(48) - 24;
         if (random.nextInt(4) > 0) {
             tell(goodText());
         }
-        for (int i = 0; i < CALLS; i++) {
+        int questionsFrom = CALLS - LAST_CALLS - random.nextInt(200);
+        while (calls < questionsFrom) {
             oneCall();
         }
-        lookAtAll();
+        while (calls < CALLS - LAST_CALLS) {
+            oneQuestion();
+        }
+        if (calls <= CALLS - LAST_CALLS) {
+            lastCalls();
+        }
+        check.isTrue("run " + run + " has " + calls + " calls", calls <= CALLS);
     }
 
+    /** Each call on the class is compared just once, so this counts them. */
     private void same(String call, int got, int want) {
+        calls++;
         check.is("run " + run + " " + call, got, want);
     }
 
@@ -85,7 +103,7 @@ public final class ModelTest {
     }
 
     private void oneCall() {
-        int kind = random.nextInt(24 + haste);
+        int kind = favourite >= 0 && !odds(4) ? favourite : random.nextInt(24 + haste);
         if (kind >= 24) {
             int n = within(1, odds(6) ? 24 : 2);
             same("months(" + n + ")", x.months(n), m.months(n));
@@ -191,7 +209,8 @@ public final class ModelTest {
     }
 
     private void text() {
-        switch (random.nextInt(8)) {
+        boolean hasRoom = calls < CALLS - LAST_CALLS - CALLS_OF_A_TEXT;
+        switch (hasRoom ? random.nextInt(8) : 4 + random.nextInt(4)) {
             case 0 -> tell(goodText());
             case 1, 2 -> tell(spoiled(goodText()));
             case 3 -> tell(pieces());
@@ -254,6 +273,11 @@ public final class ModelTest {
             text.append(';');
         }
         blanks(text, 0);
+        if (odds(10)) {
+            // About as much as the tape holds, in front or behind.
+            String many = " ".repeat(Math.max(0, 375 + upTo(30) - text.length()));
+            text.insert(odds(2) ? 0 : text.length(), many);
+        }
         return text.toString();
     }
 
@@ -294,27 +318,42 @@ public final class ModelTest {
         return text.toString();
     }
 
-    private void lookAtAll() {
-        for (int what = 0; what <= 14; what++) {
-            same("count " + what, x.count(what), m.count(what));
-        }
-        for (int p = 0; p < m.count(8); p++) {
-            for (int what = 0; what <= 7; what++) {
+    private void oneQuestion() {
+        int p = upTo(Math.max(0, m.count(8) - 1));
+        int s = upTo(Math.max(0, m.count(10) - 1));
+        int g = upTo(29);
+        switch (random.nextInt(8)) {
+            case 0 -> {
+                int what = upTo(14);
+                same("count " + what, x.count(what), m.count(what));
+            }
+            case 1, 2, 3 -> {
+                int what = upTo(7);
                 same("about " + p + " " + what, x.about(p, what), m.about(p, what));
             }
-        }
-        for (int s = 0; s < m.count(10); s++) {
-            for (int what = 0; what <= 4; what++) {
+            case 4 -> {
+                int what = upTo(4);
                 same("built " + s + " " + what, x.built(s, what), m.built(s, what));
             }
+            case 5 -> {
+                int n = 1 + upTo(83);
+                same("sure " + n, x.sure(n), m.sure(n));
+            }
+            case 6 -> {
+                int what = upTo(4);
+                same("giver " + g + " " + what, x.giver(g, what), m.giver(g, what));
+            }
+            default -> {
+                int i = upTo(m.count(14));
+                same("stone " + i, x.stone(i), m.stone(i));
+            }
         }
-        for (int n = 1; n <= 84; n++) {
-            same("sure " + n, x.sure(n), m.sure(n));
-        }
+    }
+
+    private void lastCalls() {
         same("stop", x.stop(), m.stop());
         for (int g = 0; g < 30; g++) {
             same("back " + g, x.back(g), m.back(g));
-            same("stone " + g, x.stone(g), m.stone(g));
         }
         same("coin", x.count(1), m.count(1));
     }
